@@ -629,7 +629,7 @@ public final class FusionRules {
         private static final int MAPPED = 1;
         private static final int SUMMED = 2;
         private static final int SUM_BEGUN = 3;
-        // an element is looked at once ahead of each value it wants and once more
+        // an element is looked at once ahead of each of the two values it may want, and once more
         private static final int MOST_STEPS = 4 * MOST_ASKS;
 
         private final Row[] rows;
@@ -651,10 +651,6 @@ public final class FusionRules {
             made = 0;
             works = 0;
             fault = 0;
-        }
-
-        void fail(int newFault) {
-            fault = newFault;
         }
 
         int addWorked(long x) {
@@ -682,13 +678,14 @@ public final class FusionRules {
          * another some 200 deep, so those that wait are held in a row and not in open calls.
          */
         boolean work(int element) {
-            if (element < 0 || element >= made) {
-                return false;
+            if (!waitsFor(element)) {
+                return fault == 0;
             }
             waiting[0] = element;
             int depth = 1;
             for (int step = 0; step < MOST_STEPS && depth > 0 && fault == 0; step++) {
-                int wanted = workOn(waiting[depth - 1]);
+                int top = waiting[depth - 1];
+                int wanted = states[top] == MAPPED ? workMapped(top) : workSummed(top);
                 if (wanted == NONE) {
                     depth--;
                 } else if (depth < MOST_ASKS) {
@@ -712,22 +709,11 @@ public final class FusionRules {
             return made - 1;
         }
 
-        /** The element that this one waits for, or none if it is done with. */
-        private int workOn(int element) {
-            switch (states[element]) {
-                case MAPPED:
-                    return workMapped(element);
-                case SUMMED:
-                    works++;
-                    states[element] = SUM_BEGUN;
-                    return workSummed(element);
-                case SUM_BEGUN:
-                    return workSummed(element);
-                default:
-                    return NONE;
-            }
+        private boolean waitsFor(int element) {
+            return element >= 0 && element < made && states[element] != WORKED;
         }
 
+        /** The element that this one waits for, or none once it is worked. */
         private int workMapped(int element) {
             int input = inputs[element];
             Act maker = makers[element];
@@ -742,9 +728,14 @@ public final class FusionRules {
             return finish(element, x);
         }
 
+        /** The element that this one waits for, or none once it is worked. */
         private int workSummed(int element) {
             int before = befores[element];
             int input = inputs[element];
+            if (states[element] == SUMMED) {
+                works++;
+                states[element] = SUM_BEGUN;
+            }
             if (waitsFor(before)) {
                 return before;
             }
@@ -752,10 +743,6 @@ public final class FusionRules {
                 return input;
             }
             return finish(element, valueOf(before) + valueOf(input));
-        }
-
-        private boolean waitsFor(int element) {
-            return element >= 0 && element < made && states[element] != WORKED;
         }
 
         private int finish(int element, long x) {
@@ -771,39 +758,32 @@ public final class FusionRules {
                 case TIMES:
                     return x * a;
                 case OVER:
-                    return divide(a, x);
+                    if (x == 0) {
+                        fault = BY_ZERO;
+                        return 0;
+                    }
+                    return a / x;
                 default:
                     return pick(a, (int) x);
             }
         }
 
-        private long divide(long a, long x) {
-            if (x == 0) {
-                fail(BY_ZERO);
-                return 0;
-            }
-            return a / x;
-        }
-
         private long pick(long row, int i) {
-            if (!isRow((int) row)) {
-                fail(ROW_IS_NOTHING);
+            if (row < 0 || row >= rows.length) {
+                fault = ROW_IS_NOTHING;
                 return 0;
             }
             Row picked = rows[(int) row];
             if (picked.kind == NOTHING) {
-                fail(ROW_IS_NOTHING);
-                return 0;
+                fault = ROW_IS_NOTHING;
+            } else if (picked.kind != INTS) {
+                fault = ROW_OF_OTHERS;
+            } else if (i < 0 || i >= picked.length) {
+                fault = NO_SUCH_INDEX;
+            } else {
+                return picked.cells[i];
             }
-            if (picked.kind != INTS) {
-                fail(ROW_OF_OTHERS);
-                return 0;
-            }
-            if (!picked.has(i)) {
-                fail(NO_SUCH_INDEX);
-                return 0;
-            }
-            return picked.cells[i];
+            return 0;
         }
     }
 
@@ -922,12 +902,40 @@ public final class FusionRules {
                 return NONE;
             }
             asks++;
-            if (level <= 0 || level > pipe.size || level > MOST_ACTS) {
+            if (level <= 0 || level > pipe.size) {
                 return askSource();
             }
             Act act = pipe.acts[level - 1];
-            int element = askAct(act, level);
-            if (element != NONE && !act.is(SKIP)) {
+            int element = NONE;
+            switch (act.kinds[0]) {
+                case ADD:
+                case TIMES:
+                case OVER:
+                case PICK:
+                    element = askMap(act, level);
+                    break;
+                case ABOVE:
+                case EVEN:
+                case UNLIKE:
+                    element = askTest(act, level);
+                    break;
+                case TAKE:
+                    element = askTake(act, level);
+                    break;
+                case SKIP:
+                    // what it gives costs no cell
+                    return askSkip(act, level);
+                case WHILE:
+                    element = askWhile(act, level);
+                    break;
+                case SUMS:
+                    element = askSums(level);
+                    break;
+                default:
+                    element = askTurn(level);
+                    break;
+            }
+            if (element != NONE) {
                 cells++;
             }
             return element;
@@ -952,7 +960,7 @@ public final class FusionRules {
             }
             Row row = rows[pipe.row];
             if (row.kind == NOTHING) {
-                elements.fail(ROW_IS_NOTHING);
+                elements.fault = ROW_IS_NOTHING;
                 return NONE;
             }
             if (!row.has(sourceAt)) {
@@ -961,27 +969,6 @@ public final class FusionRules {
             long x = row.cells[sourceAt];
             sourceAt++;
             return elements.addWorked(x);
-        }
-
-        private int askAct(Act act, int level) {
-            if (act.isMap()) {
-                return askMap(act, level);
-            }
-            if (act.isTest()) {
-                return askTest(act, level);
-            }
-            switch (act.kinds[0]) {
-                case TAKE:
-                    return askTake(act, level);
-                case SKIP:
-                    return askSkip(act, level);
-                case WHILE:
-                    return askWhile(act, level);
-                case SUMS:
-                    return askSums(level);
-                default:
-                    return askTurn(level);
-            }
         }
 
         private int askMap(Act act, int level) {

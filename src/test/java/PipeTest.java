@@ -77,6 +77,8 @@ public final class PipeTest {
         Check.due("act 11 of no kind", -2, x.act(2, 12, 1));
         Check.due("act 11 of no number", -2, x.act(2, 7, 101));
         Check.dueActs("all", x, 2, "0:100 1:100 2:100 3:5 4:100 5:0 6:100 7:100 8:100 9:100");
+        Check.due("twin of a full one", 10, x.twin(1, 2));
+        Check.dueActs("all", x, 1, "0:100 1:100 2:100 3:5 4:100 5:0 6:100 7:100 8:100 9:100");
     }
 
     private static void actsKeepTheirBounds() {
@@ -115,8 +117,8 @@ public final class PipeTest {
         Check.dueActs("twin of a fused one", x, 2, "0:3,4 7:3");
         Check.due("its own twin", 2, x.twin(2, 2));
         Check.dueActs("its own twin", x, 2, "0:3,4 7:3");
-        Check.ints(x, 0, 8, 9);
-        x.fromRow(3, 0);
+        Check.ints(x, 5, 8, 9);
+        x.fromRow(3, 5);
         Check.due("twin of a row's", 0, x.twin(2, 3));
         Check.due("its source", 1, x.pipe(2, 1));
         Check.dueValue("twin of a row's", x, 2, SUM, 17);
@@ -161,6 +163,18 @@ public final class PipeTest {
         Check.due("act -1", 0, x.number(0, -1, 0));
         Check.due("pipe -1", 0, x.number(-1, 0, 0));
         Check.due("pipe 4", 0, x.number(4, 0, 0));
+        numberForgetsWhatIsGone(x);
+    }
+
+    private static void numberForgetsWhatIsGone(FusionRules x) {
+        x.phase(0);
+        Check.make(x, 0, 1, 1, 10, 0, 1, 0, 2, 0, 3, 0, 4);
+        Check.due("fuse", 3, x.fuse(0));
+        Check.due("function 3", 4, x.number(0, 0, 3));
+        Check.due("function 4", 0, x.number(0, 0, 4));
+        Check.make(x, 0, 1, 1, 10, 0, 9);
+        Check.due("function 1 is gone", 0, x.number(0, 0, 1));
+        Check.due("function 0", 9, x.number(0, 0, 0));
     }
 
     private static void pipeTells() {

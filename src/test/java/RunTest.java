@@ -33,6 +33,8 @@ public final class RunTest {
         partsAreWorkedInRow();
         asksAreSpent();
         deepSumsAreWorked();
+        tenActsOfAKind();
+        runsStartAnew();
         valueStays();
         ranTells();
         runRefuses();
@@ -268,6 +270,36 @@ public final class RunTest {
         Check.make(x, 0, 1, 0, -1, SUMS, 0, SUMS, 0, SUMS, 0, SUMS, 0, SUMS, 0, SUMS, 0, SUMS, 0,
             SUMS, 0, SUMS, 0, SKIP, 35);
         Check.dueValue("sums of sums of sums", x, 0, FIRST, 708930508L, 9 * 36, 1 + 360, 9 * 36, 1);
+    }
+
+    private static void tenActsOfAKind() {
+        long[] numbers = {1, 2, 6, 1, 1, 0, 2, 2, 0, 3, 0, 0};
+        long[] sums = {11 + 12 + 13, 1024 * 6, 1 + 2 + 3, 1 + 0 + 2, 2 + 3, 2, 1 + 3, 1 + 2, 6, 1 + 2, 1 + 12 + 78, 6};
+        for (int kind = ADD; kind <= TURN; kind++) {
+            FusionRules x = new FusionRules();
+            Check.ints(x, 1, 3, 1, 0, 2);
+            x.range(0, 1, 1, 3);
+            for (int i = 0; i < 10; i++) {
+                x.act(0, kind, numbers[kind]);
+            }
+            Check.dueValue("ten of kind " + kind, x, 0, SUM, sums[kind]);
+        }
+        FusionRules x = new FusionRules();
+        x.phase(7);
+        Check.make(x, 0, 1, 1, 3, SKIP, 0, SKIP, 0, SKIP, 0, SKIP, 0, SKIP, 0);
+        Check.addActs(x, 0, ADD, 0, ADD, 0, ADD, 0, ADD, 0, ADD, 0);
+        Check.due("all ten go", 10, x.fuse(0));
+        Check.dueValue("all ten are gone", x, 0, SUM, 6, 0, 4, 0, 3);
+    }
+
+    private static void runsStartAnew() {
+        FusionRules x = new FusionRules();
+        Check.make(x, 0, 1, 1, 30, ADD, 1, SKIP, 2, SUMS, 0, TURN, 0, TAKE, 20, WHILE, 1000);
+        for (int i = 0; i < 30; i++) {
+            int asks = 31 + 31 + 29 + 29 + 20 + 21 + 21;
+            Check.dueValue("run " + i, x, 0, FIRST, 490, 30 + 28 + 28 + 3, 31 + 31 + 29 + 29 + 3, 56, 1);
+            Check.dueRun("run " + i, x, 0, COUNT, 0, 30 + 28 + 28 + 60, asks, 56, 20);
+        }
     }
 
     private static void valueStays() {
