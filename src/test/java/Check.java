@@ -2,24 +2,37 @@
 final class Check {
     private static int asked = 0;
     private static int wrong = 0;
+    private static int sentences = 0;
+    // the promise and the sentence that the answers now belong to
+    private static String about = "";
 
     private Check() {
+    }
+
+    /** A new object for the test of one sentence of the document, which a wrong answer is told with. */
+    static FusionRules sentence(int promise, String words) {
+        sentences++;
+        about = "promise " + promise + ", <" + words + ">: ";
+        return new FusionRules();
     }
 
     static void due(String call, long want, long got) {
         asked++;
         if (got != want) {
-            wrong++;
-            System.out.println(call + " answered " + got + ", due is " + want);
+            tellWrong(call + " answered " + got + ", due is " + want);
         }
+    }
+
+    private static void tellWrong(String text) {
+        wrong++;
+        System.out.println(about + text);
     }
 
     static void dueNoMean(String when, FusionRules x) {
         asked++;
         try {
             int got = x.mean();
-            wrong++;
-            System.out.println(when + ": mean() answered " + got + ", due is ArithmeticException");
+            tellWrong(when + ": mean() answered " + got + ", due is ArithmeticException");
         } catch (ArithmeticException expected) {
             // this is what is due
         }
@@ -50,8 +63,20 @@ final class Check {
             }
         }
         if (!want.contentEquals(got)) {
-            wrong++;
-            System.out.println(when + ": the acts are <" + got + ">, due is <" + want + ">");
+            tellWrong(when + ": the acts are <" + got + ">, due is <" + want + ">");
+        }
+    }
+
+    /**
+     * Whether two objects are alike in all that calls can tell. Both are used up by it: cells and
+     * phases are seen only in what runs and fusions make of them.
+     */
+    static void dueAlike(String when, FusionRules want, FusionRules got) {
+        asked++;
+        String wanted = State.of(want);
+        String found = State.of(got);
+        if (!wanted.equals(found)) {
+            tellWrong(when + ": the state is" + found + "\n  due is" + wanted);
         }
     }
 
@@ -77,7 +102,8 @@ final class Check {
     }
 
     static void end() {
-        System.out.println(asked - wrong + " answers as due, " + wrong + " not");
+        String told = sentences == 0 ? "" : sentences + " sentences, ";
+        System.out.println(told + (asked - wrong) + " answers as due, " + wrong + " not");
         if (wrong != 0) {
             System.exit(1);
         }
