@@ -6,6 +6,14 @@ final class Check {
     // the promise and the sentence that the answers now belong to
     private static String about = "";
 
+    static {
+        Thread.setDefaultUncaughtExceptionHandler((thread, thrown) -> {
+            tellWrong("a call threw");
+            thrown.printStackTrace(System.out);
+            System.exit(1);
+        });
+    }
+
     private Check() {
     }
 
@@ -26,6 +34,15 @@ final class Check {
     private static void tellWrong(String text) {
         wrong++;
         System.out.println(about + text);
+    }
+
+    static void dueMean(String when, long want, FusionRules x) {
+        try {
+            due(when + ": mean()", want, x.mean());
+        } catch (ArithmeticException none) {
+            asked++;
+            tellWrong(when + ": mean() threw an ArithmeticException, due is " + want);
+        }
     }
 
     static void dueNoMean(String when, FusionRules x) {

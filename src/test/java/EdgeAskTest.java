@@ -47,6 +47,7 @@ public final class EdgeAskTest implements Names {
         promise10SumsOfTheFirst();
         promise10SumsWrap();
         promise10SumsInThisOrder();
+        promise10SumsOfSums();
         promise10SumsOfNone();
         promise10TurnTheLastFirst();
         promise10TurnTheFirstTime();
@@ -372,6 +373,14 @@ public final class EdgeAskTest implements Names {
         Check.make(x, 0, 2, -2, 2, OVER, 6, PICK, 0, SUMS, 0);
         Check.dueRun("the one it gave before has an index, the one that came is by 0", x, 0, LAST, FAULT_3,
             6, 12, 2 + 2, 2);
+    }
+
+    private static void promise10SumsOfSums() {
+        FusionRules x = Check.sentence(10, "its value is that of the one it gave before");
+        Check.make(x, 0, 1, 0, 39, SUMS, 0, SUMS, 0, SUMS, 0, SUMS, 0, SUMS, 0, SUMS, 0, SUMS, 0, SUMS, 0, SUMS, 0);
+        Check.dueValue("47 over 9, all worked for the last", x, 0, LAST, 1362649145, 39 * 9, 400, 39 * 9, 39);
+        Check.make(x, 0, 1, 1, -1, WHILE, 133, SUMS, 0);
+        Check.dueValue("132 wait for one another", x, 0, LAST, 66 * 133, 132 + 132, 3 * 133, 132, 132);
     }
 
     private static void promise10SumsOfNone() {

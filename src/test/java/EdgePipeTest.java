@@ -36,6 +36,7 @@ public final class EdgePipeTest implements Names {
         promise7FullAndEmpty();
         promise7AsAnotherOneIs();
         promise7PutTogetherOnes();
+        promise7InPlaceOfItsOwn();
         promise7OnItsOwn();
         promise7OfItself();
         promise7RefusalsChangeNothing();
@@ -281,6 +282,24 @@ public final class EdgePipeTest implements Names {
         Check.due("twin(1, 0)", 2, x.twin(1, 0));
         Check.dueActs("all functions and tests", x, 1, "0:1,2,3,4 4:5,0");
         Check.dueValue("they work as the other's", x, 1, FIRST, 28);
+    }
+
+    private static void promise7InPlaceOfItsOwn() {
+        FusionRules x = Check.sentence(7, "A PIPE becomes as another one is: its ACTS");
+        x.phase(0);
+        x.phase(1);
+        Check.make(x, 0, 1, 1, 9, ADD, 1, TIMES, 2, ADD, 3, TIMES, 4, ABOVE, 5, EVEN, 0, TURN, 0);
+        x.fuse(0);
+        x.fromRow(1, 5);
+        Check.addActs(x, 1, TAKE, 3, ADD, 7, SKIP, 2, SUMS, 0);
+        x.twin(2, 0);
+        Check.due("four acts become three", 3, x.twin(1, 0));
+        Check.dueActs("four acts become three", x, 1, "0:1,2,3,4 4:5,0 11:0");
+        Check.due("a row becomes a range", 0, x.pipe(1, 1));
+        Check.make(x, 3, 1, 1, 2, UNLIKE, 8, WHILE, 9, SUMS, 0, PICK, 4);
+        Check.due("three acts become four", 4, x.twin(2, 3));
+        Check.dueActs("three acts become four", x, 2, "6:8 9:9 10:0 3:4");
+        Check.due("number(2, 0, 1) of before", 0, x.number(2, 0, 1));
     }
 
     private static void promise7OnItsOwn() {

@@ -23,6 +23,9 @@ public final class EdgeRunTest implements Names {
 
     private static void testElements() {
         promise10WithoutActs();
+        promise10TenMaps();
+        promise10TenTests();
+        promise10TenOthers();
         promise10SourceGivesNone();
         promise10RowOfNothing();
         promise10RowOfNothingIsAskedFirst();
@@ -38,7 +41,12 @@ public final class EdgeRunTest implements Names {
         promise10CellsOfTurn();
         promise10The400thAskIsDone();
         promise10The401stAskIsNotDone();
+        promise10The401stOfASource();
+        promise10The401stOfATest();
+        promise10The401stOfASkip();
+        promise10The401stOfATurn();
         promise10SpentAheadOfAFault();
+        promise10FaultAtThe400thAsk();
         promise10WorksOfFunctions();
         promise10WorksOfSums();
     }
@@ -66,6 +74,7 @@ public final class EdgeRunTest implements Names {
         promise12ThereWasNone();
         promise12FirstRefusal();
         promise12RefusedRunsAreNone();
+        promise12RunsThatDidNotEndWell();
         promise12OfTheLatest();
         promise12ElementsThatItsEndGot();
         promise12RefusalsChangeNothing();
@@ -162,7 +171,7 @@ public final class EdgeRunTest implements Names {
             Check.due("run " + i, 0, x.run(0, COUNT));
         }
         Check.due("count(0)", 500, x.count(0));
-        Check.due("mean()", 39 * 9, x.mean());
+        Check.dueMean("500 runs", 39 * 9, x);
     }
 
     private static void promise10WithoutActs() {
@@ -172,6 +181,56 @@ public final class EdgeRunTest implements Names {
         Check.ints(x, 0, 8, 9);
         x.fromRow(0, 0);
         Check.dueValue("a row", x, 0, SUM, 17, 0, 3, 0, 2);
+    }
+
+    /** Pipe 0 becomes from, from + by, .. (4 of them) and ten acts alike. */
+    private static void makeTen(FusionRules x, long from, long by, int kind, long a) {
+        Check.make(x, 0, from, by, 4);
+        for (int i = 1; i <= 10; i++) {
+            Check.due("act " + i, i, x.act(0, kind, a));
+        }
+    }
+
+    private static void promise10TenMaps() {
+        FusionRules x = Check.sentence(10, "PIPES 0 to 3 have a SOURCE and up to 10 ACTS");
+        Check.ints(x, 5, 1, 2, 3, 4, 0);
+        makeTen(x, 1, 1, ADD, 1);
+        Check.dueValue("ADD", x, 0, SUM, 10 + 40, 40, 55, 40, 4);
+        makeTen(x, 1, 1, TIMES, 2);
+        Check.dueValue("TIMES", x, 0, SUM, 10 * 1024, 40, 55, 40, 4);
+        makeTen(x, 1, 1, OVER, 60);
+        Check.dueValue("OVER", x, 0, SUM, 10, 40, 55, 40, 4);
+        makeTen(x, 1, 1, PICK, 5);
+        Check.dueValue("PICK", x, 0, SUM, 10, 40, 55, 40, 4);
+    }
+
+    private static void promise10TenTests() {
+        FusionRules x = Check.sentence(10, "PIPES 0 to 3 have a SOURCE and up to 10 ACTS");
+        makeTen(x, 1, 1, ABOVE, 1);
+        Check.dueValue("ABOVE", x, 0, SUM, 9, 30, 10 * 4 + 5, 0, 3);
+        makeTen(x, 1, 1, EVEN, 0);
+        Check.dueValue("EVEN", x, 0, SUM, 6, 20, 10 * 3 + 5, 0, 2);
+        makeTen(x, 1, 1, UNLIKE, 2);
+        Check.dueValue("UNLIKE", x, 0, SUM, 8, 30, 10 * 4 + 5, 0, 3);
+    }
+
+    private static void promise10TenOthers() {
+        FusionRules x = Check.sentence(10, "PIPES 0 to 3 have a SOURCE and up to 10 ACTS");
+        makeTen(x, 1, 1, TAKE, 3);
+        Check.dueValue("TAKE", x, 0, SUM, 6, 30, 4 + 9 * 3 + 3, 0, 3);
+        makeTen(x, 1, 1, SKIP, 1);
+        // all are asked once; then act 1 asks on, act 2, act 3, and act 4, which is told none
+        Check.dueRun("SKIP of fewer", x, 0, FIRST, OF_NONE, 0, 11 + 1 + 2 + 3 + 4, 0, 0);
+        x.range(0, 1, 1, 11);
+        Check.addActs(x, 0, SKIP, 1, SKIP, 1, SKIP, 1, SKIP, 1, SKIP, 1, SKIP, 1, SKIP, 1, SKIP, 1, SKIP, 1, SKIP, 1);
+        Check.dueValue("SKIP", x, 0, FIRST, 11, 0, 66, 0, 1);
+        makeTen(x, 1, 1, WHILE, 4);
+        Check.dueValue("WHILE", x, 0, SUM, 6, 30, 11 * 4, 0, 3);
+        makeTen(x, 1, 0, SUMS, 0);
+        Check.dueValue("SUMS", x, 0, SUM, 1 + 11 + 66 + 286, 40, 55, 40, 4);
+        makeTen(x, 1, 1, TURN, 0);
+        Check.dueValue("TURN, the first", x, 0, FIRST, 1, 9 * 8 + 4 + 1, 10 * 5 + 1, 0, 1);
+        Check.dueValue("TURN, all", x, 0, SUM, 10, 80, 55, 0, 4);
     }
 
     private static void promise10SourceGivesNone() {
@@ -300,6 +359,54 @@ public final class EdgeRunTest implements Names {
         Check.make(x, 0, 1, 1, 40, ADD, 1, ADD, 1, ADD, 1, ADD, 1, ADD, 1, ADD, 1, ADD, 1, ADD, 1, ADD, 1);
         Check.dueRun("410 asks", x, 0, SUM, SPENT, 40 * 9, 400, 40 * 9, 40);
         Check.dueValue("the next run has 400 again", x, 0, FIRST, 10, 9, 10, 9, 1);
+    }
+
+    private static void promise10The401stOfASource() {
+        FusionRules x = Check.sentence(10, "the 401st is not done: the RUN is SPENT");
+        Check.make(x, 0, -298, 1, -1);
+        Check.dueValue("101 comes at the 400th", x, 0, ANY, 1, 0, 400, 0, 400);
+        Check.make(x, 0, -299, 1, -1);
+        Check.dueRun("101 would come at the 401st", x, 0, ANY, SPENT, 0, 400, 0, 400);
+    }
+
+    private static void promise10The401stOfATest() {
+        FusionRules x = Check.sentence(10, "the 401st is not done: the RUN is SPENT");
+        Check.make(x, 0, 1, 1, -1, ABOVE, 398);
+        Check.dueValue("399 comes at the 400th", x, 0, FIRST, 399, 1, 400, 0, 1);
+        Check.make(x, 0, 1, 1, -1, ABOVE, 399);
+        Check.dueRun("400 would come at the 401st", x, 0, FIRST, SPENT, 0, 400, 0, 0);
+    }
+
+    private static void promise10The401stOfASkip() {
+        FusionRules x = Check.sentence(10, "the 401st is not done: the RUN is SPENT");
+        x.phase(3);
+        Check.make(x, 0, 1, 1, -1, SKIP, 100, SKIP, 100, SKIP, 100, SKIP, 98);
+        x.fuse(0);
+        Check.dueValue("SKIP 398", x, 0, FIRST, 399, 0, 400, 0, 1);
+        x.act(0, SKIP, 1);
+        x.fuse(0);
+        Check.dueRun("SKIP 399", x, 0, FIRST, SPENT, 0, 400, 0, 0);
+        Check.addActs(x, 0, SKIP, 100, SKIP, 100, SKIP, 100);
+        x.fuse(0);
+        Check.dueActs("more than all asks", x, 0, "8:699");
+        Check.dueRun("SKIP 699", x, 0, COUNT, SPENT, 0, 400, 0, 0);
+    }
+
+    private static void promise10The401stOfATurn() {
+        FusionRules x = Check.sentence(10, "the 401st is not done: the RUN is SPENT");
+        Check.make(x, 0, 1, 1, -1, ADD, 0, WHILE, 133, TURN, 0);
+        Check.dueValue("the 400th tells the end", x, 0, FIRST, 132, 133 + 132 + 132 + 1, 400, 133, 1);
+        Check.dueRun("the END asks once more", x, 0, COUNT, SPENT, 133 + 132 + 132 + 1, 400, 133, 1);
+        Check.make(x, 0, 1, 1, -1, ADD, 0, WHILE, 134, TURN, 0);
+        Check.dueRun("what was taken is not given", x, 0, FIRST, SPENT, 3 * 133, 400, 133, 0);
+    }
+
+    private static void promise10FaultAtThe400thAsk() {
+        FusionRules x = Check.sentence(10, "A RUN that wants the value of an ELEMENT with one ends with it");
+        Check.make(x, 0, 199, -1, -1, OVER, 1);
+        Check.dueRun("0 comes at the 400th", x, 0, SUM, FAULT_4, 200, 400, 200, 200);
+        Check.make(x, 0, 200, -1, -1, OVER, 1);
+        Check.dueRun("0 would come behind it", x, 0, SUM, SPENT, 200, 400, 200, 200);
     }
 
     private static void promise10SpentAheadOfAFault() {
@@ -495,6 +602,15 @@ public final class EdgeRunTest implements Names {
         Check.due("ran(3)", NONE_SO_FAR, x.ran(3));
     }
 
+    private static void promise12RunsThatDidNotEndWell() {
+        FusionRules x = Check.sentence(12, "-3: there was none");
+        x.fromRow(0, 0);
+        Check.dueRun("a fault, and no run ahead of it", x, 0, COUNT, FAULT_1, 0, 1, 0, 0);
+        FusionRules y = new FusionRules();
+        y.range(0, 1, 1, -1);
+        Check.dueRun("spent, and no run ahead of it", y, 0, COUNT, SPENT, 0, 400, 0, 400);
+    }
+
     private static void promise12OfTheLatest() {
         FusionRules x = Check.sentence(12, "Of the latest RUN");
         Check.make(x, 0, 1, 1, 3, ADD, 1);
@@ -628,7 +744,7 @@ public final class EdgeRunTest implements Names {
         x.run(0, 5);
         Check.dueNoMean("refused runs", x);
         x.run(0, SUM);
-        Check.due("mean() of a run without cells", 0, x.mean());
+        Check.dueMean("a run without cells", 0, x);
     }
 
     private static void promise18NoneEndedWell() {
@@ -648,16 +764,16 @@ public final class EdgeRunTest implements Names {
         FusionRules x = Check.sentence(18, "by how many these are, cut");
         Check.make(x, 0, 0, 1, 5, ADD, 1);
         x.run(0, COUNT);
-        Check.due("5 by 1", 5, x.mean());
+        Check.dueMean("5 by 1", 5, x);
         x.run(1, COUNT);
-        Check.due("5 by 2", 2, x.mean());
+        Check.dueMean("5 by 2", 2, x);
         x.run(1, COUNT);
-        Check.due("5 by 3", 1, x.mean());
+        Check.dueMean("5 by 3", 1, x);
         x.run(1, COUNT);
         x.run(1, COUNT);
-        Check.due("5 by 5", 1, x.mean());
+        Check.dueMean("5 by 5", 1, x);
         x.run(1, COUNT);
-        Check.due("5 by 6", 0, x.mean());
+        Check.dueMean("5 by 6", 0, x);
     }
 
     private static void promise18EndedWell() {
@@ -666,15 +782,15 @@ public final class EdgeRunTest implements Names {
         Check.make(x, 1, 0, 1, 5, TURN, 0, OVER, 1);
         Check.make(x, 2, 0, 1, -1, ADD, 1);
         Check.dueRun("of none", x, 0, FIRST, OF_NONE, 5);
-        Check.due("5 by 1", 5, x.mean());
+        Check.dueMean("5 by 1", 5, x);
         Check.dueRun("a fault", x, 1, SUM, FAULT_4, 5 + 5 + 5);
-        Check.due("5 by 1 behind a fault", 5, x.mean());
+        Check.dueMean("5 by 1 behind a fault", 5, x);
         Check.dueRun("spent", x, 2, SUM, SPENT, 200);
-        Check.due("5 by 1 behind a spent run", 5, x.mean());
+        Check.dueMean("5 by 1 behind a spent run", 5, x);
         Check.dueRun("well", x, 1, COUNT, 0, 15);
-        Check.due("20 by 2", 10, x.mean());
+        Check.dueMean("20 by 2", 10, x);
         x.run(4, COUNT);
-        Check.due("20 by 2 behind a refused run", 10, x.mean());
+        Check.dueMean("20 by 2 behind a refused run", 10, x);
     }
 
     private static void promise18ChangesNothing() {

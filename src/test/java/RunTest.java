@@ -382,13 +382,13 @@ public final class RunTest {
         Check.dueRun("spent", x, 1, SUM, -20);
         Check.dueNoMean("no run ended well", x);
         Check.dueRun("three cells", x, 0, COUNT, 0);
-        Check.due("mean", 3, x.mean());
+        Check.dueMean("mean", 3, x);
         Check.dueRun("no cells", x, 2, LAST, 1);
-        Check.due("mean is cut, and one of none ended well", 1, x.mean());
+        Check.dueMean("mean is cut, and one of none ended well", 1, x);
         Check.dueRun("spent", x, 1, SUM, -20);
-        Check.due("mean as before", 1, x.mean());
+        Check.dueMean("mean as before", 1, x);
         Check.dueRun("no cells", x, 2, SUM, 0);
         Check.dueRun("no cells", x, 2, SUM, 0);
-        Check.due("mean", 0, x.mean());
+        Check.dueMean("mean", 0, x);
     }
 }
